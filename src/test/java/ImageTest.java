@@ -13,6 +13,8 @@ public final class ImageTest {
     private static EightOnIce busy() {
         EightOnIce x = new EightOnIce();
         Check.tell(x, "s0=50;s1=2;s2=70;s3=4;s4=5;k63;h0102;o11177;t069;t123;t098;");
+        x.lay(1, 11, 0, 1);
+        x.lay(0, 0, 1, 5);
         return x;
     }
 
@@ -20,7 +22,7 @@ public final class ImageTest {
         EightOnIce x = busy();
         String before = Check.stateOf(x);
         check.due("image()", x.image(), 3);
-        Check.tell(x, "w;s0=10;s1=0;s2=0;s3=0;s4=0;k00;h0100;o11100;t111;t111;t111;t111;");
+        Check.tell(x, "w;s0=10;s1=0;s2=0;s3=0;s4=0;k00;h0100;h1110;o11100;o00000;t111;t111;t111;t111;");
         check.due("TRACES then", x.count(0), 4);
         check.due("restore()", x.restore(), 3);
         check.due("all is as it was", Check.stateOf(x).equals(before) ? 1 : 0, 1);
@@ -65,7 +67,7 @@ public final class ImageTest {
         x.lay(1, 5, 1, 5);
         Check.feedAll(x, "abcd");
         Check.rowOf(x, 1, 2);
-        int[] want = {3, 2, 6, 3, 5, 2, 4, 2};
+        int[] want = {3, 2, 6, 3, 6, 3, 4, 2};
         for (int what = 0; what < want.length; what++) {
             check.due("count(" + what + ")", x.count(what), want[what]);
         }

@@ -100,6 +100,16 @@ public final class JudgesTest {
         marksOf(x, 1, 60, 58, 60, 60, 55);
         check.due("both", x.fewest(0), 2);
         check.due("the set of both", x.fewest(1), 3);
+        x.set(4, 0);
+        check.due("ORDERLY is as NAMER", x.fewest(0), -9);
+        x.set(4, 1);
+        x.set(3, 0);
+        check.due("NAMER is as JUDGE", x.fewest(1), -9);
+        x.set(3, 1);
+        x.lay(0, 3, 0, 0);
+        check.due("SWEEPER alone is as JUDGE", x.fewest(0), -9);
+        x.lay(0, 3, 0, 1);
+        check.due("told apart again", x.fewest(1), 3);
     }
 
     private static void fewestOfSeveral() {

@@ -52,6 +52,28 @@ public final class MeasureTest {
         check.due("HOUR", x.of(1, 6), 0);
         check.due("how far", x.of(1, 7), 96);
         x.sweep();
+        x.lay(0, 0, 1, 99);
+        x.lay(0, 1, 1, 1);
+        x.draw(0, 6, 9);
+        // 93 5 40 .. 40: at HOUR 0 141 off, at HOUR 1 123, at HOUR 11 53
+        check.due("HOUR", x.of(0, 6), 0);
+        check.due("how far", x.of(0, 7), 141);
+        check.due("ROUND", x.of(0, 3), 88);
+        x.lay(0, 11, 1, 99);
+        x.skater(6, 5);
+        x.sweep();
+        x.draw(0, 6, 9);
+        // 69 21 40 .. 40 69: at HOUR 0 48 off, at HOUR 1 67, at HOUR 11 29 (round: HOUR 0 behind)
+        check.due("HOUR 1", x.of(0, 6), 1);
+        check.due("how far at HOUR 1", x.of(0, 7), 67);
+        x.lay(0, 1, 1, 0);
+        x.lay(0, 0, 1, 20);
+        x.sweep();
+        x.draw(0, 6, 9);
+        // 30 40 .. 40 69: at HOUR 0 49 off, at HOUR 11 68 (58 by HOUR 1)
+        check.due("HOUR 11 beside HOUR 0", x.of(0, 6), 11);
+        check.due("how far at HOUR 11", x.of(0, 7), 68);
+        x.sweep();
         x.skater(0, 0);
         x.draw(0, 6, 9);
         check.due("no wobble: the least HOUR", x.of(0, 6), 0);
@@ -115,6 +137,11 @@ public final class MeasureTest {
         check.due("of three", x.spread(0), 0 + 1 + 1 + 1 + 2 + 2 + 2 + 3 + 3 + 3 + 4 + 4);
         check.due("close of two feet", x.close(2, 3), 12 * 540 - 3 * 66 + 6 - 480);
         check.due("spread(1)", x.spread(1), 0);
+        x.draw(1, 9, 9);
+        check.due("HOUR 0 counts, too", x.spread(1), 12 * 540 - 3 * 66 + 6 - 12 * 60);
+        x.sweep();
+        x.draw(0, 6, 1);
+        check.due("what is swept counts no more", x.spread(0), 0);
     }
 
     private static void refused() {

@@ -42,6 +42,13 @@ public final class MindTest {
         check.due("CENTRED is as it was", x.grows(0, 6, 5, 2, 2), 0);
         check.due("LAGGED grows", x.grows(0, 6, 5, 3, 9), 1);
         check.due("STIFF is as it was", x.grows(0, 6, 5, 4, 5), 0);
+        x.set(0, 10);
+        x.draw(1, 2, 5);
+        check.due("by two", x.grows(1, 1, 7, 1, 2), -1);
+        check.due("by three", x.grows(1, 1, 7, 1, 3), 1);
+        x.sweep();
+        x.set(0, 40);
+        x.draw(0, 6, 9);
         check.due("without a TRACE it is as it was", x.grows(1, 6, 5, 1, 2), 0);
         x.draw(0, 9, 9);
         // Behind 60 .. the LOOKER comes nearer to 40 .. again.
@@ -75,6 +82,8 @@ public final class MindTest {
         check.due("no RUB: 60 by 11", x.closes(1), 11);
         x.set(0, 99);
         check.due("no RUB: 100 by 53", x.closes(1), 53);
+        x.set(0, 77);
+        check.due("no RUB: 77 by 97 alone", x.closes(1), 97);
         x.skater(4, 0);
         x.set(0, 10);
         check.due("STIFF: 10 and 11", x.closes(1), 16);

@@ -65,12 +65,16 @@ public final class PracticeTest {
         x.set(0, 61);
         check.due("OFF by 57", x.seeds(1, 1, 0), 789 - 732);
         check.due("less than 60", x.seeds(1, 1, 1), 1);
+        x.set(1, 0);
+        x.set(0, 63);
+        check.due("68 each: OFF by 60", x.seeds(1, 1, 0), 60);
+        check.due("60 is not less than 60", x.seeds(1, 1, 1), 0);
         x.lay(0, 1, 0, 3);
         check.due("OFF on hard ice", x.seeds(1, 1, 0), x.next(0, 8, 7, -1));
         check.due("the same seed again", x.seeds(7, -5, 0), x.seeds(7, -5, 0));
     }
 
-    /** SEEDS as the draws tell, drawn for real: six TRACES at most. */
+    /** SEEDS as the draws tell, drawn for real behind two that are there. */
     private static void seedsBehindOneAnother() {
         for (int z = -3; z <= 3; z++) {
             for (int kind = 0; kind < 7; kind++) {
@@ -78,18 +82,20 @@ public final class PracticeTest {
                 x.skater(kind, 3);
                 x.lay(0, 4, 1, 60);
                 x.lay(1, 7, 0, 2);
-                int all = x.seeds(6, z * 1000003, 0);
-                int near = x.seeds(6, z * 1000003, 1);
+                x.draw(0, 9, 4);
+                x.draw(1, 5, 9);
+                int all = x.seeds(4, z * 1000003, 0);
+                int near = x.seeds(4, z * 1000003, 1);
                 int[] drawn = drawForReal(x, z * 1000003);
-                check.due("OFF of six by KIND " + kind, all, drawn[0]);
-                check.due("how many of six by KIND " + kind, near, drawn[1]);
+                check.due("OFF of four by KIND " + kind, all, drawn[0]);
+                check.due("how many of four by KIND " + kind, near, drawn[1]);
             }
         }
     }
 
     private static int[] drawForReal(EightOnIce x, int z) {
         int[] sums = new int[2];
-        for (int i = 0; i < 6; i++) {
+        for (int i = 0; i < 4; i++) {
             int[] drawn = new int[3];
             int[] below = {2, 9, 9};
             for (int j = 0; j < 3; j++) {

@@ -73,7 +73,14 @@ public final class RowTest {
         check.due("the least of several", x.whose(0, 0), 11);
         Check.rowOf(x, 55, 55, 55, 55, 55, 55, 55, 55, 55, 64, 46, 55);
         check.due("a WOBBLER's, FIGURE as it is", x.whose(0, -1), 32);
+        check.due("of an ASTRAY", x.whose(0, 6), -9);
         check.due("60 less a quarter of 20", x.whose(0, 5), 11);
+        Check.rowOf(x, 50, 50, 50, 50, 50, 50, 50, 50, 50, 50, 50, 50);
+        check.due("ASTRAY without lines", x.whose(0, 6), 56);
+        Check.rowOf(x, 51, 50, 50, 50, 50, 50, 50, 50, 50, 50, 50, 50);
+        check.due("HOUR 0 is looked at, too", x.whose(0, 0), -9);
+        Check.rowOf(x, 77, 77, 77, 77, 77, 77, 77, 77, 77, 77, 77, 77);
+        check.due("77 by 97 alone", x.whose(0, 0), 97);
         Check.rowOf(x, 50, 50, 50, 50, 50, 50, 50, 50, 50, 50, 50, 50);
         x.draw(1, 6, 9);
         check.due("those who look at 40", x.whose(1, -1) & 2 + 8 + 64, 2 + 8 + 64);
@@ -134,6 +141,37 @@ public final class RowTest {
         x.lay(0, 0, 1, 1);
         fraction(x, 0, 2, 1, 1);
         wobbleOfJustFour();
+        wobbleOfThree();
+        wobbleOfTheRightAlone();
+    }
+
+    private static void wobbleOfThree() {
+        EightOnIce x = new EightOnIce();
+        x.skater(4, 0);
+        x.draw(0, 6, 9);
+        x.draw(1, 6, 9);
+        // 40 40 39 40 38 39 38 38 37 38 36 37: at HOUR 3 3 off, at HOUR 4 3
+        check.due("how far", x.of(0, 7), 3);
+        for (int hour = 0; hour < 12; hour++) {
+            fraction(x, hour, 0, 0, 1);
+        }
+    }
+
+    private static void wobbleOfTheRightAlone() {
+        EightOnIce x = new EightOnIce();
+        x.skater(5, 9);
+        x.draw(0, 6, 9);
+        x.sweep();
+        x.draw(1, 6, 9);
+        x.draw(1, 6, 9);
+        fraction(x, 9, 0, 0, 1);
+        x.lay(1, 9, 1, 1);
+        fraction(x, 9, 0, 0, 1);
+        fraction(x, 9, 2, 1, 1);
+        x.lay(0, 9, 0, 1);
+        // BODY 0, ICE 3, LINE 2
+        fraction(x, 9, 1, 3, 5);
+        fraction(x, 9, 2, 2, 5);
     }
 
     private static void wobbleOfJustFour() {
