@@ -51,6 +51,7 @@ public final class MeasureTest {
         check.radii(x, 1, 5, 40, 40, 40, 40, 40, 40, 40, 40, 40, 40, 66);
         check.due("HOUR", x.of(1, 6), 0);
         check.due("how far", x.of(1, 7), 96);
+        check.due("ROUND from HOUR 0 on", x.of(1, 3), 61);
         x.sweep();
         x.lay(0, 0, 1, 99);
         x.lay(0, 1, 1, 1);

@@ -69,6 +69,9 @@ public final class PracticeTest {
         x.set(0, 63);
         check.due("68 each: OFF by 60", x.seeds(1, 1, 0), 60);
         check.due("60 is not less than 60", x.seeds(1, 1, 1), 0);
+        x.lay(0, 11, 0, 3);
+        check.due("67 at HOUR 11: OFF by 59", x.seeds(1, 1, 0), 59);
+        check.due("59 is less than 60", x.seeds(1, 1, 1), 1);
         x.lay(0, 1, 0, 3);
         check.due("OFF on hard ice", x.seeds(1, 1, 0), x.next(0, 8, 7, -1));
         check.due("the same seed again", x.seeds(7, -5, 0), x.seeds(7, -5, 0));

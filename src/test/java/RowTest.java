@@ -161,6 +161,8 @@ public final class RowTest {
         EightOnIce x = new EightOnIce();
         x.skater(5, 9);
         x.draw(0, 6, 9);
+        x.draw(0, 6, 9);
+        x.draw(0, 6, 9);
         x.sweep();
         x.draw(1, 6, 9);
         x.draw(1, 6, 9);
