@@ -1,5 +1,3 @@
-import java.util.function.LongSupplier;
-
 /** What every test uses: it compares answers, counts them, and ends with 1 if one was wrong. */
 final class Check {
     private int right;
@@ -19,31 +17,6 @@ final class Check {
         for (int hour = 0; hour < want.length; hour++) {
             due("trace(" + trace + ", " + hour + ")", x.trace(trace, hour), want[hour]);
         }
-    }
-
-    /** A refused call: its answer, one more REFUSAL of its number, and nothing else changes. */
-    void refused(EightOnIce x, String call, int code, LongSupplier made) {
-        refused(x, call, code, code, made);
-    }
-
-    void refused(EightOnIce x, String call, int code, long answer, LongSupplier made) {
-        String before = stateOf(x);
-        int[] counts = refusalsOf(x);
-        due(call, made.getAsLong(), answer);
-        int[] after = refusalsOf(x);
-        for (int kind = 1; kind <= 6; kind++) {
-            int more = kind == -code ? 1 : 0;
-            due(call + ", then REFUSALS -" + kind, after[kind], counts[kind] + more);
-        }
-        due(call + ", then the state is the same", stateOf(x).equals(before) ? 1 : 0, 1);
-    }
-
-    static int[] refusalsOf(EightOnIce x) {
-        int[] counts = new int[7];
-        for (int kind = 1; kind <= 6; kind++) {
-            counts[kind] = x.count(10 + kind);
-        }
-        return counts;
     }
 
     /** All that can be seen without a refusal and without a change. */

@@ -11,7 +11,6 @@ public final class DrawTest {
         wobblers();
         ledAstray();
         roomForSix();
-        refused();
         check.finish("DrawTest");
     }
 
@@ -112,27 +111,8 @@ public final class DrawTest {
         for (int number = 0; number < 6; number++) {
             check.due("draw", x.draw(number % 2, 1 + number, 9), number);
         }
-        check.refused(x, "a seventh", -6, () -> x.draw(0, 1, 1));
-        check.refused(x, "a seventh of no foot", -1, () -> x.draw(2, 1, 1));
-        check.refused(x, "a seventh too low", -4, () -> x.draw(0, 0, 1));
         check.due("sweep()", x.sweep(), 6);
         check.due("TRACES then", x.count(0), 0);
-        check.refused(x, "swept", -1, () -> x.trace(0, 0));
         check.due("the first again", x.draw(1, 9, 9), 0);
-    }
-
-    private static void refused() {
-        EightOnIce x = new EightOnIce();
-        x.draw(0, 6, 9);
-        check.refused(x, "draw(-1, 0, 0)", -1, () -> x.draw(-1, 0, 0));
-        check.refused(x, "draw(2, 10, 10)", -1, () -> x.draw(2, 10, 10));
-        check.refused(x, "draw(0, 0, 10)", -4, () -> x.draw(0, 0, 10));
-        check.refused(x, "draw(0, 10, 0)", -4, () -> x.draw(0, 10, 0));
-        check.refused(x, "draw(0, 10, 9)", -6, () -> x.draw(0, 10, 9));
-        check.refused(x, "draw(0, 9, 10)", -6, () -> x.draw(0, 9, 10));
-        check.refused(x, "trace(1, 0)", -1, () -> x.trace(1, 0));
-        check.refused(x, "trace(-1, 0)", -1, () -> x.trace(-1, 0));
-        check.refused(x, "trace(0, 12)", -1, () -> x.trace(0, 12));
-        check.refused(x, "trace(0, -1)", -1, () -> x.trace(0, -1));
     }
 }

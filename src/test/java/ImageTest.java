@@ -5,7 +5,6 @@ public final class ImageTest {
     public static void main(String[] args) {
         allComesBack();
         whatTheImageHasNot();
-        imagesOfNothing();
         counts();
         check.finish("ImageTest");
     }
@@ -53,12 +52,6 @@ public final class ImageTest {
         check.due("the ROW stays", x.count(7), 4);
         check.due("REFUSALS stay", x.count(11), 2);
         check.due("the letters are those told", x.rink(), -1003);
-    }
-
-    private static void imagesOfNothing() {
-        EightOnIce x = busy();
-        check.refused(x, "restore() without image()", -3, () -> x.restore());
-        check.due("TRACES", x.count(0), 3);
     }
 
     private static void counts() {

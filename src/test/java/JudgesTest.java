@@ -9,7 +9,6 @@ public final class JudgesTest {
         fitting();
         fewestLines();
         fewestOfSeveral();
-        refused();
         check.finish("JudgesTest");
     }
 
@@ -127,19 +126,5 @@ public final class JudgesTest {
         marksOf(x, 3, 50, 48, 53, 54, 41);
         check.due("one is enough", x.fewest(0), 1);
         check.due("the least such", x.fewest(1), 2);
-    }
-
-    private static void refused() {
-        EightOnIce x = new EightOnIce();
-        x.draw(0, 6, 9);
-        check.refused(x, "mark(5, 1)", -2, () -> x.mark(5, 1));
-        check.refused(x, "mark(-1, 0)", -2, () -> x.mark(-1, 0));
-        check.refused(x, "mark(0, 1)", -1, () -> x.mark(0, 1));
-        check.refused(x, "mark(4, -1)", -1, () -> x.mark(4, -1));
-        check.refused(x, "fits() of too few", -3, () -> x.fits());
-        Check.rowOf(x, 1, 2);
-        check.refused(x, "fits() of too many", -3, () -> x.fits());
-        check.refused(x, "fewest(2)", -2, () -> x.fewest(2));
-        check.refused(x, "fewest(-1)", -2, () -> x.fewest(-1));
     }
 }

@@ -8,7 +8,6 @@ public final class MeasureTest {
         flats();
         means();
         closeAndSpread();
-        refused();
         check.finish("MeasureTest");
     }
 
@@ -143,25 +142,5 @@ public final class MeasureTest {
         x.sweep();
         x.draw(0, 6, 1);
         check.due("what is swept counts no more", x.spread(0), 0);
-    }
-
-    private static void refused() {
-        EightOnIce x = new EightOnIce();
-        x.draw(0, 6, 9);
-        long far = 4000000000000000000L;
-        check.refused(x, "of(1, 9)", -1, () -> x.of(1, 9));
-        check.refused(x, "of(-1, 0)", -1, () -> x.of(-1, 0));
-        check.refused(x, "of(0, 9)", -2, () -> x.of(0, 9));
-        check.refused(x, "of(0, -1)", -2, () -> x.of(0, -1));
-        check.refused(x, "mean(1, 2)", -1, far + 1, () -> x.mean(1, 2));
-        check.refused(x, "mean(-1, 0)", -1, far + 1, () -> x.mean(-1, 0));
-        check.refused(x, "mean(0, 2)", -2, far + 2, () -> x.mean(0, 2));
-        check.refused(x, "mean(0, -1)", -2, far + 2, () -> x.mean(0, -1));
-        check.refused(x, "close(0, 1)", -1, () -> x.close(0, 1));
-        check.refused(x, "close(1, 0)", -1, () -> x.close(1, 0));
-        check.refused(x, "close(-1, 0)", -1, () -> x.close(-1, 0));
-        check.refused(x, "close(0, -1)", -1, () -> x.close(0, -1));
-        check.refused(x, "spread(2)", -1, () -> x.spread(2));
-        check.refused(x, "spread(-1)", -1, () -> x.spread(-1));
     }
 }

@@ -10,9 +10,6 @@ public final class MindTest {
         correcting();
         lots();
         nothingChanges();
-        refusedNext();
-        refusedGrowth();
-        refusedOthers();
         check.finish("MindTest");
     }
 
@@ -133,59 +130,5 @@ public final class MindTest {
         x.lot(5, 5);
         x.seeds(20, 77, 0);
         check.due("in mind alone", Check.stateOf(x).equals(before) ? 1 : 0, 1);
-    }
-
-    private static void refusedNext() {
-        EightOnIce x = new EightOnIce();
-        x.draw(0, 6, 9);
-        check.refused(x, "next(2, 0, 10, 0)", -1, () -> x.next(2, 0, 10, 0));
-        check.refused(x, "next(-1, 1, 1, 0)", -1, () -> x.next(-1, 1, 1, 0));
-        check.refused(x, "next(0, 0, 10, 12)", -1, () -> x.next(0, 0, 10, 12));
-        check.refused(x, "next(0, 1, 1, -2)", -1, () -> x.next(0, 1, 1, -2));
-        check.refused(x, "next(0, 0, 10, 0)", -4, () -> x.next(0, 0, 10, 0));
-        check.refused(x, "next(0, 10, 0, 0)", -4, () -> x.next(0, 10, 0, 0));
-        check.refused(x, "next(0, 10, 1, 0)", -6, () -> x.next(0, 10, 1, 0));
-        check.refused(x, "next(0, 1, 10, -1)", -6, () -> x.next(0, 1, 10, -1));
-    }
-
-    private static void refusedGrowth() {
-        EightOnIce x = new EightOnIce();
-        x.draw(0, 6, 9);
-        int far = 1000000000;
-        check.refused(x, "grows(2, 0, 0, 7, 1)", -1, far + 1, () -> x.grows(2, 0, 0, 7, 1));
-        check.refused(x, "grows(-1, 1, 1, 0, 2)", -1, far + 1, () -> x.grows(-1, 1, 1, 0, 2));
-        check.refused(x, "grows(0, 0, 0, 7, 1)", -2, far + 2, () -> x.grows(0, 0, 0, 7, 1));
-        check.refused(x, "grows(0, 1, 1, -1, 2)", -2, far + 2, () -> x.grows(0, 1, 1, -1, 2));
-        check.refused(x, "grows(0, 0, 10, 0, 2)", -4, far + 4, () -> x.grows(0, 0, 10, 0, 2));
-        check.refused(x, "grows(0, 10, 0, 0, 2)", -4, far + 4, () -> x.grows(0, 10, 0, 0, 2));
-        check.refused(x, "grows(0, 10, 10, 0, 1)", -4, far + 4, () -> x.grows(0, 10, 10, 0, 1));
-        check.refused(x, "grows(0, 10, 1, 0, 2)", -6, far + 6, () -> x.grows(0, 10, 1, 0, 2));
-        check.refused(x, "grows(0, 1, 10, 0, 2)", -6, far + 6, () -> x.grows(0, 1, 10, 0, 2));
-        check.refused(x, "grows(0, 1, 1, 0, 10)", -6, far + 6, () -> x.grows(0, 1, 1, 0, 10));
-        check.refused(x, "calm(2, 0, 0, 1)", -1, () -> x.calm(2, 0, 0, 1));
-        check.refused(x, "calm(-1, 10, 10, 10)", -1, () -> x.calm(-1, 10, 10, 10));
-        check.refused(x, "calm(0, 0, 10, 10)", -4, () -> x.calm(0, 0, 10, 10));
-        check.refused(x, "calm(0, 10, 0, 10)", -4, () -> x.calm(0, 10, 0, 10));
-        check.refused(x, "calm(0, 10, 10, 1)", -4, () -> x.calm(0, 10, 10, 1));
-        check.refused(x, "calm(0, 10, 1, 2)", -6, () -> x.calm(0, 10, 1, 2));
-        check.refused(x, "calm(0, 1, 10, 2)", -6, () -> x.calm(0, 1, 10, 2));
-        check.refused(x, "calm(0, 1, 1, 10)", -6, () -> x.calm(0, 1, 1, 10));
-    }
-
-    private static void refusedOthers() {
-        EightOnIce x = new EightOnIce();
-        x.draw(0, 6, 9);
-        check.refused(x, "closes(2)", -1, () -> x.closes(2));
-        check.refused(x, "closes(-1)", -1, () -> x.closes(-1));
-        check.refused(x, "correct(2, 0, 10)", -1, () -> x.correct(2, 0, 10));
-        check.refused(x, "correct(-1, 1, 1)", -1, () -> x.correct(-1, 1, 1));
-        check.refused(x, "correct(0, 0, 10)", -4, () -> x.correct(0, 0, 10));
-        check.refused(x, "correct(0, 10, 0)", -4, () -> x.correct(0, 10, 0));
-        check.refused(x, "correct(0, 10, 1)", -6, () -> x.correct(0, 10, 1));
-        check.refused(x, "correct(0, 1, 10)", -6, () -> x.correct(0, 1, 10));
-        check.refused(x, "lot(0, 10)", -4, () -> x.lot(0, 10));
-        check.refused(x, "lot(10, 0)", -4, () -> x.lot(10, 0));
-        check.refused(x, "lot(10, 1)", -6, () -> x.lot(10, 1));
-        check.refused(x, "lot(1, 10)", -6, () -> x.lot(1, 10));
     }
 }

@@ -5,12 +5,15 @@ import java.util.Random;
 /** Promises 1 to 34: random runs of the class beside the model; every answer is the same. */
 public final class ModelTest {
     private static final int RUNS = 4000;
-    private static final int CALLS = 120;
+    private static final int STEPS = 120;
+    /** A step and the counts at the end take less than 100 calls; behind the 512th nothing is promised. */
+    private static final int LAST_STEP = 412;
     private static final String[] STATEMENTS = {"s0=40;", "s1=0;", "s1=3;", "s2=5;", "s3=4;", "s4=2;",
         "k10;", "k23;", "k30;", "k42;", "k59;", "k65;", "h0033;", "h1052;", "o00344;", "o11160;",
         "t069;", "t158;", "t099;", "t111;", "w;", "s0=9;", "k70;", "h0124;", "t200;", "x", "s0=1", "t0;"};
 
     private static final Check check = new Check();
+    private static int calls;
 
     public static void main(String[] args) throws Exception {
         for (int run = 0; run < RUNS; run++) {
@@ -23,7 +26,8 @@ public final class ModelTest {
         EightOnIce x = new EightOnIce();
         Model model = new Model();
         Method[] face = FaceTest.publicMethods();
-        for (int i = 0; i < CALLS; i++) {
+        calls = 0;
+        for (int i = 0; i < STEPS && calls < LAST_STEP; i++) {
             int way = random.nextInt(12);
             if (way == 0) {
                 tellSome(x, model, random, run);
@@ -43,6 +47,7 @@ public final class ModelTest {
         for (int what = -1; what < 26; what++) {
             both(x, model, "count", run, what);
         }
+        check.due("no more calls than are promised", Math.max(calls, 512), 512);
     }
 
     private static int someNumber(Random random) {
@@ -73,6 +78,7 @@ public final class ModelTest {
     private static void rowOfSome(EightOnIce x, Model model, Random random, int run) throws Exception {
         both(x, model, "clear", run);
         int traces = x.count(0);
+        calls += 13;
         if (random.nextBoolean()) {
             int judge = random.nextInt(5);
             for (int trace = 0; trace < traces; trace++) {
@@ -95,6 +101,7 @@ public final class ModelTest {
 
     private static void both(EightOnIce x, Model model, String name, int run, Object... numbers)
             throws Exception {
+        calls++;
         Class<?>[] types = new Class<?>[numbers.length];
         Arrays.fill(types, int.class);
         Number got = (Number) EightOnIce.class.getDeclaredMethod(name, types).invoke(x, numbers);

@@ -7,7 +7,6 @@ public final class PracticeTest {
         whoWouldHaveWon();
         seedsOfOne();
         seedsBehindOneAnother();
-        refused();
         check.finish("PracticeTest");
     }
 
@@ -110,19 +109,5 @@ public final class PracticeTest {
             sums[1] += off < 60 ? 1 : 0;
         }
         return sums;
-    }
-
-    private static void refused() {
-        EightOnIce x = new EightOnIce();
-        check.refused(x, "hours(-1, 2)", -4, () -> x.hours(-1, 2));
-        check.refused(x, "hours(41, 2)", -6, () -> x.hours(41, 2));
-        check.refused(x, "hours(40, 2)", -2, () -> x.hours(40, 2));
-        check.refused(x, "hours(0, -1)", -2, () -> x.hours(0, -1));
-        check.refused(x, "won(-1)", -4, () -> x.won(-1));
-        check.refused(x, "won(41)", -6, () -> x.won(41));
-        check.refused(x, "seeds(0, 1, 2)", -4, () -> x.seeds(0, 1, 2));
-        check.refused(x, "seeds(21, 1, 2)", -6, () -> x.seeds(21, 1, 2));
-        check.refused(x, "seeds(20, 1, 2)", -2, () -> x.seeds(20, 1, 2));
-        check.refused(x, "seeds(1, 1, -1)", -2, () -> x.seeds(1, 1, -1));
     }
 }

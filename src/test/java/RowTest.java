@@ -7,23 +7,17 @@ public final class RowTest {
         judged();
         whoseLine();
         whoseLargeLine();
-        refusedWhose();
         whereAWobbleIsFrom();
-        refusedFrom();
         check.finish("RowTest");
     }
 
     private static void rows() {
         EightOnIce x = new EightOnIce();
         check.due("clear() of none", x.clear(), 0);
-        check.refused(x, "row(-1)", -4, () -> x.row(-1));
-        check.refused(x, "row(100)", -6, () -> x.row(100));
         check.due("row(0)", x.row(0), 1);
         for (int n = 2; n <= 12; n++) {
             check.due("row(99)", x.row(99), n);
         }
-        check.refused(x, "a thirteenth", -6, () -> x.row(1));
-        check.refused(x, "a thirteenth below 0", -4, () -> x.row(-1));
         check.due("in the ROW", x.count(7), 12);
         check.due("clear()", x.clear(), 12);
         check.due("in the ROW then", x.count(7), 0);
@@ -47,9 +41,8 @@ public final class RowTest {
         Check.rowOf(x, 99, 99);
         check.due("540 is not 99", x.judge(1), 0);
         Check.rowOf(x, 1, 2, 3);
-        check.refused(x, "judge(2)", -1, () -> x.judge(2));
-        check.refused(x, "judge(-1)", -1, () -> x.judge(-1));
-        check.due("the ROW stays at a refusal", x.count(7), 3);
+        check.due("no such TRACE", x.judge(2), -1);
+        check.due("the ROW stays then", x.count(7), 3);
     }
 
     private static void whoseLine() {
@@ -94,17 +87,6 @@ public final class RowTest {
         // 180 .. 147 by 1; 120 .. 87 would be too small at the end
         check.due("above 99 is told as 99", x.whose(0, 0), 31);
         check.due("STIFF", x.whose(0, 4), 31);
-    }
-
-    private static void refusedWhose() {
-        EightOnIce x = new EightOnIce();
-        check.refused(x, "whose(2, 9)", -1, () -> x.whose(2, 9));
-        check.refused(x, "whose(-1, 0)", -1, () -> x.whose(-1, 0));
-        check.refused(x, "whose(0, 7)", -2, () -> x.whose(0, 7));
-        check.refused(x, "whose(0, -2)", -2, () -> x.whose(0, -2));
-        check.refused(x, "whose(0, 0) of none", -3, () -> x.whose(0, 0));
-        Check.rowOf(x, 1, 2, 3, 4, 5, 6, 7, 8, 9, 10, 11);
-        check.refused(x, "whose(0, -1) of eleven", -3, () -> x.whose(0, -1));
     }
 
     private static void fraction(EightOnIce x, int hour, int what, int above, int below) {
@@ -191,16 +173,5 @@ public final class RowTest {
         fraction(x, 11, 0, 0, 1);
         fraction(x, 6, 0, 0, 1);
         fraction(x, 6, 2, 1, 1);
-    }
-
-    private static void refusedFrom() {
-        EightOnIce x = new EightOnIce();
-        long far = 4000000000000000000L;
-        check.refused(x, "from(12, 3, 2)", -1, far + 1, () -> x.from(12, 3, 2));
-        check.refused(x, "from(-1, 0, 0)", -1, far + 1, () -> x.from(-1, 0, 0));
-        check.refused(x, "from(0, 3, 0)", -2, far + 2, () -> x.from(0, 3, 0));
-        check.refused(x, "from(0, -1, 0)", -2, far + 2, () -> x.from(0, -1, 0));
-        check.refused(x, "from(0, 0, 2)", -2, far + 2, () -> x.from(0, 0, 2));
-        check.refused(x, "from(0, 0, -1)", -2, far + 2, () -> x.from(0, 0, -1));
     }
 }
