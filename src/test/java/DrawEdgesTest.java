@@ -95,8 +95,8 @@ public final class DrawEdgesTest {
         edge.refused("draw(0, 1, 1)", -6);
         edge.refused("draw(1, 9, 9)", -6);
         edge.refused("draw(1, 5, 5)", -6);
-        edge.above("draw(1, ?, 9)", 9, -6);
-        edge.above("draw(1, 9, ?)", 9, -6);
+        edge.justAbove("draw(1, ?, 9)", 9, -6);
+        edge.justAbove("draw(1, 9, ?)", 9, -6);
     }
 
     private static void sixAtMost(Edge edge) {
@@ -318,15 +318,15 @@ public final class DrawEdgesTest {
 
     private static void traceOfNobody(Edge edge) {
         edge.says(10, "-1 either.");
-        edge.outside("trace(?, 0)", 0, -1, -1);
+        edge.justOutside("trace(?, 0)", 0, -1, -1);
         edge.on("draw(0, 6, 9)");
         edge.outside("trace(?, 11)", 0, 0, -1);
         edge.on(Edge.BUSY);
         edge.outside("trace(?, 0)", 0, 2, -1);
         edge.on(Edge.FULL);
         edge.outside("trace(?, 11)", 0, 5, -1);
-        edge.outside("trace(?, 12)", 0, 5, -1);
-        edge.outside("trace(?, -1)", 0, 5, -1);
+        edge.justOutside("trace(?, 12)", 0, 5, -1);
+        edge.justOutside("trace(?, -1)", 0, 5, -1);
     }
 
     private static void hourOfNobody(Edge edge) {

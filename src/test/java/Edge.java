@@ -231,22 +231,47 @@ final class Edge {
         return call.startsWith("mean(") || call.startsWith("from(") ? 4000000000000000000L - code : code;
     }
 
-    /** "?" below the least: the number next to it, and the smallest int. */
+    /** "?" at the least number that is taken, at the one next to it that is not, at the smallest int. */
     void below(String pattern, int least, int code) {
+        notRefusedBy(pattern.replace("?", String.valueOf(least)), code);
+        justBelow(pattern, least, code);
+    }
+
+    /** As below(), where something else refuses the least number likewise. */
+    void justBelow(String pattern, int least, int code) {
         refused(pattern.replace("?", String.valueOf(least - 1)), code);
         refused(pattern.replace("?", "MIN"), code);
     }
 
-    /** "?" above the greatest: the number next to it, and the greatest int. */
+    /** "?" at the greatest number that is taken, at the one next to it that is not, at the greatest int. */
     void above(String pattern, int most, int code) {
+        notRefusedBy(pattern.replace("?", String.valueOf(most)), code);
+        justAbove(pattern, most, code);
+    }
+
+    /** As above(), where something else refuses the greatest number likewise. */
+    void justAbove(String pattern, int most, int code) {
         refused(pattern.replace("?", String.valueOf(most + 1)), code);
         refused(pattern.replace("?", "MAX"), code);
     }
 
-    /** "?" on either side of what there is. */
+    /** "?" at both ends of what there is, and on either side of them. */
     void outside(String pattern, int least, int most, int code) {
         below(pattern, least, code);
         above(pattern, most, code);
+    }
+
+    /** As outside(), where something else refuses every number likewise. */
+    void justOutside(String pattern, int least, int most, int code) {
+        justBelow(pattern, least, code);
+        justAbove(pattern, most, code);
+    }
+
+    private void notRefusedBy(String call, int code) {
+        Skated x = new Skated(scene);
+        x.ask(call);
+        String count = "count(" + (10 - code) + ")";
+        due(name(call) + ", then " + count, x.ask(count), sceneSeen().get(count));
     }
 
     void finish(String test) {

@@ -110,7 +110,7 @@ public final class IceEdgesTest {
         edge.outside("ice(?, 11, 1)", 0, 1, -1);
         edge.outside("ice(0, ?, 1)", 0, 11, -1);
         edge.outside("ice(1, ?, 0)", 0, 11, -1);
-        edge.outside("ice(?, ?, 0)", 0, 11, -1);
+        edge.justOutside("ice(?, ?, 0)", 0, 11, -1);
         edge.outside("ice(?, 0, 2)", 0, 1, -1);
         edge.outside("ice(0, ?, -1)", 0, 11, -1);
     }
@@ -156,7 +156,7 @@ public final class IceEdgesTest {
         edge.outside("lay(?, 11, 1, 1)", 0, 1, -1);
         edge.outside("lay(0, ?, 0, 1)", 0, 11, -1);
         edge.outside("lay(1, ?, 1, 1)", 0, 11, -1);
-        edge.outside("lay(?, ?, 1, 1)", 0, 11, -1);
+        edge.justOutside("lay(?, ?, 1, 1)", 0, 11, -1);
         edge.outside("lay(?, 0, 2, -1)", 0, 1, -1);
         edge.outside("lay(0, ?, -1, 100)", 0, 11, -1);
     }

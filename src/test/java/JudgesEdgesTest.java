@@ -72,7 +72,7 @@ public final class JudgesEdgesTest {
 
     private static void markOfNobody(Edge edge) {
         edge.says(22, "-2 KIND of JUDGES; -1.", "-1");
-        edge.outside("mark(0, ?)", 0, -1, -1);
+        edge.justOutside("mark(0, ?)", 0, -1, -1);
         edge.on(Edge.BUSY);
         edge.outside("mark(0, ?)", 0, 2, -1);
         edge.outside("mark(4, ?)", 0, 2, -1);

@@ -59,7 +59,7 @@ public final class MeasureEdgesTest {
 
     private static void ofNobody(Edge edge) {
         edge.says(11, "-1; -2.", "-1");
-        edge.outside("of(?, 0)", 0, -1, -1);
+        edge.justOutside("of(?, 0)", 0, -1, -1);
         edge.on(Edge.BUSY);
         edge.outside("of(?, 0)", 0, 2, -1);
         edge.outside("of(?, 8)", 0, 2, -1);
@@ -80,14 +80,12 @@ public final class MeasureEdgesTest {
         edge.terms(11, "Of a TRACE: ROUND: the greatest RADIUS less the least;");
         edge.on(bent());
         edge.answers("of(0, 3)", 0);
-        edge.on(bent(0, 50));
-        edge.answers("of(0, 3)", 1);
-        edge.on(bent(0, 30));
-        edge.answers("of(0, 3)", 1);
-        edge.on(bent(11, 50));
-        edge.answers("of(0, 3)", 1);
-        edge.on(bent(11, 30));
-        edge.answers("of(0, 3)", 1);
+        for (int hour = 0; hour < 12; hour++) {
+            edge.on(bent(hour, 50));
+            edge.answers("of(0, 3)", 1);
+            edge.on(bent(hour, 30));
+            edge.answers("of(0, 3)", 1);
+        }
         edge.on(bent(0, 60, 11, 30));
         edge.answers("of(0, 3)", 3);
         edge.on(bent(5, 60, 6, 30));
@@ -211,7 +209,7 @@ public final class MeasureEdgesTest {
 
     private static void meanOfNobody(Edge edge) {
         edge.says(12, "Refused as told: -1; -2.", "Refused as told: -1");
-        edge.outside("mean(?, 0)", 0, -1, -1);
+        edge.justOutside("mean(?, 0)", 0, -1, -1);
         edge.on(Edge.BUSY);
         edge.outside("mean(?, 0)", 0, 2, -1);
         edge.outside("mean(?, 1)", 0, 2, -1);
@@ -254,7 +252,7 @@ public final class MeasureEdgesTest {
 
     private static void closeOfNobody(Edge edge) {
         edge.says(13, "-1 either.");
-        edge.outside("close(?, ?)", 0, -1, -1);
+        edge.justOutside("close(?, ?)", 0, -1, -1);
         edge.on(Edge.BUSY);
         edge.outside("close(?, 0)", 0, 2, -1);
         edge.outside("close(2, ?)", 0, 2, -1);

@@ -93,7 +93,7 @@ public final class MindEdgesTest {
         edge.outside("next(1, 9, 9, ?)", -1, 11, -1);
         edge.outside("next(?, 0, 10, 0)", 0, 1, -1);
         edge.outside("next(0, 10, 0, ?)", -1, 11, -1);
-        edge.outside("next(?, 1, 1, ?)", -1, 11, -1);
+        edge.justOutside("next(?, 1, 1, ?)", -1, 11, -1);
     }
 
     private static void nextBelow(Edge edge) {
@@ -143,6 +143,13 @@ public final class MindEdgesTest {
         edge.answersRow("grows(0, 6, 9, 1, ?)", 2, -1, -1, -1, -1, -1, -1, -1, -1);
         edge.refused("grows(0, 6, 9, 1, 1)", -4);
         edge.refused("grows(0, 6, 9, 1, 10)", -6);
+        // A line with 44 at HOUR 0 and 40 elsewhere: behind it a LAGGED one has 42 at HOUR 1, then 41 at HOUR 2, then
+        // 40 at all. From 41 those are OFF by 12, 11, 12; from 42 by 22, 23, 24.
+        String[] bent = {"set(1, 0)", "skater(6, 1)", "lay(0, 0, 1, 80)", "draw(0, 6, 9)", "lay(0, 0, 1, 0)"};
+        edge.on(Edge.with(bent, "set(0, 41)"));
+        edge.answersRow("grows(0, 6, 9, 3, ?)", 2, -1, 0, 0, 0, 0, 0, 0, 0);
+        edge.on(Edge.with(bent, "set(0, 42)"));
+        edge.answersRow("grows(0, 6, 9, 3, ?)", 2, 1, 1, 1, 1, 1, 1, 1, 1);
         // 6 TRACES are no bound for it.
         edge.on(Edge.with(EVEN_45, "draw(1, 1, 1)", "draw(1, 1, 1)", "draw(1, 1, 1)", "draw(1, 1, 1)",
             "draw(1, 1, 1)"));

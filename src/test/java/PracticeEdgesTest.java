@@ -208,6 +208,13 @@ public final class PracticeEdgesTest {
         edge.answersRow("seeds(?, 1, 0)", 1, 336, 336, 624);
         edge.on("set(1, 0)", "draw(0, 6, 9)", "skater(1, 0)");
         edge.answers("seeds(1, 1, 0)", 168);
+        // By seed -1 67 (right); behind 40 of the right foot 54, of the left foot 67.
+        edge.answers("seeds(1, -1, 0)", 324);
+        edge.on("set(1, 0)", "draw(1, 6, 9)", "skater(1, 0)");
+        edge.answers("seeds(1, -1, 0)", 168);
+        // By seed 0: 30 (left), 52, 33 (right); a LOOKER's third is 42.
+        edge.on("set(1, 0)", "skater(1, 0)");
+        edge.answersRow("seeds(?, 0, 0)", 1, 120, 264, 288);
     }
 
     private static void drawsOfInts(Edge edge) {

@@ -94,7 +94,7 @@ public final class RinkEdgesTest {
         edge.refused("feed(59)", -6);
         edge.refused("feed(119)", -6);
         edge.refused("feed(255)", -6);
-        edge.above("feed(?)", 255, -6);
+        edge.justAbove("feed(?)", 255, -6);
     }
 
     private static void atMost96(Edge edge) {
@@ -130,6 +130,9 @@ public final class RinkEdgesTest {
         told(edge, many("w;", 47), 47);
         told(edge, many("w;", 48), 48);
         told(edge, "s0=040;s1=1;k00;h0000;o00000;w;", 6);
+        // Of the letters that are there alone, not of those told ahead.
+        edge.on("feed w;w;w;w;k19;", "rink()", "feed k69;");
+        edge.changes("rink()", 1, "count(6)=0", "count(2)=6");
     }
 
     private static void nothingIsCounted(Edge edge) {
@@ -234,6 +237,11 @@ public final class RinkEdgesTest {
 
     private static void hardStatement(Edge edge) {
         edge.terms(3, "\"h\" a PATCH (a digit), HOUR (2 digits), HARD (a digit);");
+        for (int hour = 0; hour < 12; hour++) {
+            String told = String.format("%02d", hour);
+            told(edge, "h0" + told + "2;", 1, "ice(0, " + hour + ", 0)=2", "count(4)=2");
+            told(edge, "h1" + told + "2;", 1, "ice(1, " + hour + ", 0)=2", "count(4)=2");
+        }
         told(edge, "h0003;", 1, "ice(0, 0, 0)=3", "count(4)=3");
         told(edge, "h1111;", 1, "ice(1, 11, 0)=1", "count(4)=1");
         told(edge, "h1093;h1090;", 2);
@@ -256,6 +264,11 @@ public final class RinkEdgesTest {
 
     private static void oldStatement(Edge edge) {
         edge.terms(3, "\"o\" a PATCH (a digit), HOUR (2 digits), RADIUS (2 digits);");
+        for (int hour = 0; hour < 12; hour++) {
+            String told = String.format("%02d", hour);
+            told(edge, "o0" + told + "70;", 1, "ice(0, " + hour + ", 1)=70", "count(5)=1");
+            told(edge, "o1" + told + "07;", 1, "ice(1, " + hour + ", 1)=7", "count(5)=1");
+        }
         told(edge, "o00001;", 1, "ice(0, 0, 1)=1", "count(5)=1");
         told(edge, "o11199;", 1, "ice(1, 11, 1)=99", "count(5)=1");
         told(edge, "o11199;o11100;", 2);

@@ -143,6 +143,9 @@ public final class RowEdgesTest {
         edge.on("lay(0, 0, 0, 1)", "lay(1, 0, 1, 1)");
         fraction(edge, 0, 1, 3, 5);
         fraction(edge, 0, 2, 2, 5);
+        edge.on("lay(1, 0, 0, 1)", "lay(0, 0, 1, 1)");
+        fraction(edge, 0, 1, 3, 5);
+        fraction(edge, 0, 2, 2, 5);
         edge.on("lay(1, 11, 0, 1)", "lay(0, 11, 1, 99)", "lay(1, 11, 1, 99)");
         fraction(edge, 11, 1, 3, 7);
         fraction(edge, 11, 2, 4, 7);
@@ -182,7 +185,7 @@ public final class RowEdgesTest {
         edge.outside("from(11, ?, 1)", 0, 2, -2);
         edge.outside("from(0, 0, ?)", 0, 1, -2);
         edge.outside("from(11, 2, ?)", 0, 1, -2);
-        edge.outside("from(7, ?, ?)", 0, 2, -2);
+        edge.justOutside("from(7, ?, ?)", 0, 2, -2);
     }
 
     private static String twelve(int number) {
@@ -347,7 +350,7 @@ public final class RowEdgesTest {
         edge.on(TWELVE);
         edge.refused("row(0)", -6);
         edge.refused("row(99)", -6);
-        edge.above("row(?)", 99, -6);
+        edge.justAbove("row(?)", 99, -6);
     }
 
     private static void judgeAnswers(Edge edge) {
@@ -396,9 +399,9 @@ public final class RowEdgesTest {
 
     private static void judgeNobody(Edge edge) {
         edge.says(29, "-1.");
-        edge.outside("judge(?)", 0, -1, -1);
+        edge.justOutside("judge(?)", 0, -1, -1);
         edge.on("row 1 2 3");
-        edge.outside("judge(?)", 0, -1, -1);
+        edge.justOutside("judge(?)", 0, -1, -1);
         edge.on(Edge.BUSY);
         edge.outside("judge(?)", 0, 2, -1);
         edge.on(Edge.with(Edge.BUSY, "clear()"));
