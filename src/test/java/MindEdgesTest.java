@@ -145,11 +145,14 @@ public final class MindEdgesTest {
         edge.refused("grows(0, 6, 9, 1, 10)", -6);
         // A line with 44 at HOUR 0 and 40 elsewhere: behind it a LAGGED one has 42 at HOUR 1, then 41 at HOUR 2, then
         // 40 at all. From 41 those are OFF by 12, 11, 12; from 42 by 22, 23, 24.
-        String[] bent = {"set(1, 0)", "skater(6, 1)", "lay(0, 0, 1, 80)", "draw(0, 6, 9)", "lay(0, 0, 1, 0)"};
-        edge.on(Edge.with(bent, "set(0, 41)"));
-        edge.answersRow("grows(0, 6, 9, 3, ?)", 2, -1, 0, 0, 0, 0, 0, 0, 0);
-        edge.on(Edge.with(bent, "set(0, 42)"));
-        edge.answersRow("grows(0, 6, 9, 3, ?)", 2, 1, 1, 1, 1, 1, 1, 1, 1);
+        for (int foot = 0; foot < 2; foot++) {
+            String[] bent = {"set(1, 0)", "skater(6, 1)", "lay(" + foot + ", 0, 1, 80)", "draw(" + foot + ", 6, 9)",
+                "lay(" + foot + ", 0, 1, 0)"};
+            edge.on(Edge.with(bent, "set(0, 41)"));
+            edge.answersRow("grows(" + foot + ", 6, 9, 3, ?)", 2, -1, 0, 0, 0, 0, 0, 0, 0);
+            edge.on(Edge.with(bent, "set(0, 42)"));
+            edge.answersRow("grows(" + foot + ", 6, 9, 3, ?)", 2, 1, 1, 1, 1, 1, 1, 1, 1);
+        }
         // 6 TRACES are no bound for it.
         edge.on(Edge.with(EVEN_45, "draw(1, 1, 1)", "draw(1, 1, 1)", "draw(1, 1, 1)", "draw(1, 1, 1)",
             "draw(1, 1, 1)"));
