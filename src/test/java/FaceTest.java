@@ -23,10 +23,12 @@ public final class FaceTest {
         "import", "package", "protected", "equals", "hashCode", "toString", "Random", "Thread", "volatile",
         "native", "transient", "var"};
 
+    private static final String CLASS = "src/main/java/EightOnIce.java";
     private static final Check check = new Check();
 
     public static void main(String[] args) throws Exception {
         theFace();
+        asTheDocumentTellsIt();
         noOtherMember();
         innerClasses();
         theText();
@@ -56,6 +58,21 @@ public final class FaceTest {
             }
         }
         due("public final", EightOnIce.class.getModifiers() == (Modifier.PUBLIC | Modifier.FINAL));
+    }
+
+    /** Each line of the document's face stands in the class, with the names of its numbers, and no other does. */
+    private static void asTheDocumentTellsIt() throws Exception {
+        String document = Files.readString(Path.of("../shared/DOC.md"));
+        String text = Files.readString(Path.of(CLASS));
+        String begin = "public final class EightOnIce {\n";
+        String face = document.substring(document.indexOf(begin) + begin.length());
+        String[] told = face.substring(0, face.indexOf("\n}")).split("\n");
+        check.due("how many lines the face has", told.length, FACE.length + 1);
+        for (String line : told) {
+            due(line.trim() + " stands in the class", text.contains("\n" + line.replace(";", " {") + "\n"));
+        }
+        long many = text.lines().filter(line -> line.startsWith("    public ")).count();
+        check.due("how many public members stand in the class", many, told.length);
     }
 
     private static void noOtherMember() {
@@ -96,7 +113,7 @@ public final class FaceTest {
     }
 
     private static void theText() throws Exception {
-        String text = Files.readString(Path.of("src/main/java/EightOnIce.java"));
+        String text = Files.readString(Path.of(CLASS));
         String code = text.replaceAll("(?s)/\\*.*?\\*/", "").replaceAll("//[^\n]*", "");
         for (String word : BANNED) {
             due("no " + word, !Pattern.compile("\\b" + word + "\\b").matcher(code).find());
